@@ -571,8 +571,10 @@ public final class StarPlates {
             if (side[at] <= side[next]) return;
             int which = corner[at];
             long opposite = side[at];
-            put(at, corner[next], side[next]);
-            put(next, which, opposite);
+            corner[at] = corner[next];
+            side[at] = side[next];
+            corner[next] = which;
+            side[next] = opposite;
         }
 
         private long turnOf(Dots dots) {

@@ -37,7 +37,7 @@ public final class LanguageTest extends TreePathScanner<Void, Void> {
     private static final Path SOURCE = Path.of("src/main/java/StarPlates.java");
     private static final Set<String> LIBRARY = Set.of("java.lang.Math.abs", "java.lang.Math.max", "java.lang.Math.min",
         "java.lang.Math.floorDiv", "java.util.Arrays.fill", "java.lang.System.arraycopy", "java.lang.Object.<init>");
-    private static final int LINES = 60, DEPTH = 8;
+    private static final int LINES = 60, DEPTH = 7;
 
     private final Check check = new Check("LanguageTest");
     private final Trees trees;
