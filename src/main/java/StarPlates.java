@@ -28,7 +28,9 @@ public final class StarPlates {
 
     /** A float's parts: bits below the exponent, the exponent of 1, the exponent that is no number's. */
     private static final int LOW_BITS = 23, POWER_OF_ONE = 127, POWER_BEYOND = 255;
-    private static final int HIDDEN_BIT = 1 << LOW_BITS, SIGN_BIT = Integer.MIN_VALUE;
+    private static final int HIDDEN_BIT = 1 << LOW_BITS, SIGN_BIT = 1 << 31;
+    /** The ends of an int, by its bits: the library's list has no constants. */
+    private static final int LEAST_INT = SIGN_BIT, GREATEST_INT = ~SIGN_BIT;
 
     private final Dots stars;
     private final Dots[] plates;
@@ -338,7 +340,7 @@ public final class StarPlates {
         if (power == 0) return 0;
         int upper = low | HIDDEN_BIT;
         int shift = power - POWER_OF_ONE - LOW_BITS + extra;
-        if (shift > 7) return word < 0 ? Integer.MIN_VALUE : Integer.MAX_VALUE;
+        if (shift > 7) return word < 0 ? LEAST_INT : GREATEST_INT;
         if (shift < -LOW_BITS) return 0;
         int size = shift >= 0 ? upper << shift : upper >> -shift;
         return word < 0 ? -size : size;

@@ -1,9 +1,15 @@
+import com.sun.source.tree.ArrayAccessTree;
 import com.sun.source.tree.AssertTree;
+import com.sun.source.tree.AssignmentTree;
 import com.sun.source.tree.ClassTree;
 import com.sun.source.tree.CompilationUnitTree;
+import com.sun.source.tree.CompoundAssignmentTree;
+import com.sun.source.tree.DoWhileLoopTree;
+import com.sun.source.tree.ForLoopTree;
 import com.sun.source.tree.ImportTree;
 import com.sun.source.tree.LambdaExpressionTree;
 import com.sun.source.tree.MemberReferenceTree;
+import com.sun.source.tree.MemberSelectTree;
 import com.sun.source.tree.MethodInvocationTree;
 import com.sun.source.tree.MethodTree;
 import com.sun.source.tree.NewArrayTree;
@@ -13,6 +19,9 @@ import com.sun.source.tree.ThrowTree;
 import com.sun.source.tree.Tree;
 import com.sun.source.tree.TryTree;
 import com.sun.source.tree.TypeCastTree;
+import com.sun.source.tree.UnaryTree;
+import com.sun.source.tree.VariableTree;
+import com.sun.source.tree.WhileLoopTree;
 import com.sun.source.util.JavacTask;
 import com.sun.source.util.SourcePositions;
 import com.sun.source.util.TreePathScanner;
@@ -27,6 +36,7 @@ import java.util.Map;
 import java.util.Set;
 import javax.lang.model.element.Element;
 import javax.lang.model.element.ElementKind;
+import javax.lang.model.element.Modifier;
 import javax.lang.model.type.TypeMirror;
 import javax.tools.JavaCompiler;
 import javax.tools.StandardJavaFileManager;
@@ -37,6 +47,8 @@ public final class LanguageTest extends TreePathScanner<Void, Void> {
     private static final Path SOURCE = Path.of("src/main/java/StarPlates.java");
     private static final Set<String> LIBRARY = Set.of("java.lang.Math.abs", "java.lang.Math.max", "java.lang.Math.min",
         "java.lang.Math.floorDiv", "java.util.Arrays.fill", "java.lang.System.arraycopy", "java.lang.Object.<init>");
+    /** The library's list has no constants; this one stands in the document's face. */
+    private static final String LIBRARY_CONSTANT = "java.lang.Long.MIN_VALUE";
     private static final int LINES = 60, DEPTH = 7;
 
     private final Check check = new Check("LanguageTest");
@@ -132,6 +144,18 @@ public final class LanguageTest extends TreePathScanner<Void, Void> {
         return super.visitMethodInvocation(tree, none);
     }
 
+    @Override
+    public Void visitMemberSelect(MemberSelectTree tree, Void none) {
+        Element field = trees.getElement(getCurrentPath());
+        if (field != null && field.getKind() == ElementKind.FIELD && field.getEnclosingElement() != null) {
+            String owner = field.getEnclosingElement().toString();
+            String name = owner + "." + field.getSimpleName();
+            // the length of a row has no class that it belongs to
+            if (owner.startsWith("java.")) check.holds(name + " is of the document's face", name.equals(LIBRARY_CONSTANT));
+        }
+        return super.visitMemberSelect(tree, none);
+    }
+
     /** The library's functions over rows take rows of numbers, and so none of booleans or objects. */
     private void numbersAlone(MethodInvocationTree tree) {
         for (Tree argument : tree.getArguments()) {
@@ -139,6 +163,64 @@ public final class LanguageTest extends TreePathScanner<Void, Void> {
             String told = type.toString();
             if (told.endsWith("[]")) check.holds(tree + " is over numbers", told.equals("int[]") || told.equals("long[]"));
         }
+    }
+
+    /** Rules 3 and 5: the types that the class needs are few, and what is static is a constant. */
+    @Override
+    public Void visitVariable(VariableTree tree, Void none) {
+        Element element = trees.getElement(getCurrentPath());
+        String type = element.asType().toString();
+        check.holds(tree.getName() + " is of a type of the rules: " + type, type.matches("(int|long|boolean|StarPlates\\.\\w+)(\\[\\])?"));
+        if (element.getModifiers().contains(Modifier.STATIC)) {
+            check.holds(tree.getName() + " is final", element.getModifiers().contains(Modifier.FINAL));
+            check.holds(tree.getName() + " is a number or a row of ints", type.equals("int") || type.equals("long") || type.equals("int[]"));
+        }
+        return super.visitVariable(tree, none);
+    }
+
+    /** A static row is never changed. */
+    private void changes(Tree target) {
+        if (!(target instanceof ArrayAccessTree row)) return;
+        Element changed = trees.getElement(trees.getPath(unit, row.getExpression()));
+        if (changed != null && changed.getModifiers().contains(Modifier.STATIC)) never(target, "a static row is changed");
+    }
+
+    @Override
+    public Void visitAssignment(AssignmentTree tree, Void none) {
+        changes(tree.getVariable());
+        return super.visitAssignment(tree, none);
+    }
+
+    @Override
+    public Void visitCompoundAssignment(CompoundAssignmentTree tree, Void none) {
+        changes(tree.getVariable());
+        return super.visitCompoundAssignment(tree, none);
+    }
+
+    @Override
+    public Void visitUnary(UnaryTree tree, Void none) {
+        boolean isStep = tree.getKind().name().endsWith("CREMENT");
+        if (isStep) changes(tree.getExpression());
+        return super.visitUnary(tree, none);
+    }
+
+    /** Rule 9: a loop of this class counts, and its own line shows against what. */
+    @Override
+    public Void visitForLoop(ForLoopTree tree, Void none) {
+        if (tree.getCondition() == null || tree.getUpdate().size() != 1) never(tree, "a loop without a bound or a step");
+        return super.visitForLoop(tree, none);
+    }
+
+    @Override
+    public Void visitWhileLoop(WhileLoopTree tree, Void none) {
+        never(tree, "while");
+        return super.visitWhileLoop(tree, none);
+    }
+
+    @Override
+    public Void visitDoWhileLoop(DoWhileLoopTree tree, Void none) {
+        never(tree, "do");
+        return super.visitDoWhileLoop(tree, none);
     }
 
     @Override

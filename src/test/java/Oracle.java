@@ -308,7 +308,8 @@ final class Oracle {
     private Fit between() {
         List<Two> twos = new ArrayList<>();
         TreeMap<Integer, Integer> here = cleaning(0), there = cleaning(1);
-        for (int s = 0; s < 8; s++) if ((both() >> s & 1) == 1) twos.add(new Two(plates.get(0).get(here.get(s)), plates.get(1).get(there.get(s))));
+        int inBoth = both();
+        for (int s = 0; s < 8; s++) if ((inBoth >> s & 1) == 1) twos.add(new Two(plates.get(0).get(here.get(s)), plates.get(1).get(there.get(s))));
         return twos.size() < 2 ? null : new Fit(twos);
     }
 

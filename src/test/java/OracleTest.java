@@ -39,9 +39,10 @@ public final class OracleTest {
 
     private void go() {
         int before = check.wrongSoFar();
-        int sky = draw.nextInt(3);
+        int sky = draw.nextInt(4);
         if (sky == 0) copySky(20 + draw.nextInt(300), draw.nextInt(4));
         if (sky == 1) copySky(2 + draw.nextInt(4), 0);
+        if (sky == 2) wideSky(draw.nextInt(4));
         if (draw.nextInt(2) == 0) one(10, draw.nextInt(4), draw.nextInt(60));
         while (calls < CALLS && check.wrongSoFar() == before) {
             int op = draw.nextInt(29);
@@ -69,6 +70,29 @@ public final class OracleTest {
                 int far = draw.nextInt(8) == 0 ? 60 : noise;
                 int u = 2000 + a * xs[s] - b * ys[s] + draw.nextInt(far + 1);
                 int v = 2000 + b * xs[s] + a * ys[s] + draw.nextInt(far + 1);
+                if (draw.nextInt(8) > 0) spot(p, u, v, draw.nextInt(256));
+                else spot(p, draw.nextInt(4096), draw.nextInt(4096), draw.nextInt(256));
+            }
+        }
+    }
+
+    /** Stars from end to end of the sky, and both plates with them made small: the greatest sums that a fit can have. */
+    private void wideSky(int noise) {
+        int n = 3 + draw.nextInt(6);
+        int[] xs = new int[n], ys = new int[n];
+        for (int s = 0; s < n; s++) {
+            xs[s] = draw.nextInt(4) == 0 ? (draw.nextBoolean() ? 9999 : -9999) : draw.nextInt(19999) - 9999;
+            ys[s] = draw.nextInt(4) == 0 ? (draw.nextBoolean() ? 9999 : -9999) : draw.nextInt(19999) - 9999;
+            star(xs[s], ys[s], draw.nextInt(1000));
+        }
+        for (int p = 0; p < 2; p++) {
+            // in ten thousandths; half the plate is 2047, and a place may be turned by any angle
+            int a = draw.nextInt(2048) - 1024, b = draw.nextInt(2048) - 1024;
+            for (int i = 0; i < n; i++) {
+                int s = (i + p) % n;
+                int far = draw.nextInt(8) == 0 ? 60 : noise;
+                int u = 2047 + (a * xs[s] - b * ys[s]) / 10000 + draw.nextInt(far + 1);
+                int v = 2047 + (b * xs[s] + a * ys[s]) / 10000 + draw.nextInt(far + 1);
                 if (draw.nextInt(8) > 0) spot(p, u, v, draw.nextInt(256));
                 else spot(p, draw.nextInt(4096), draw.nextInt(4096), draw.nextInt(256));
             }
